@@ -283,12 +283,12 @@ public final class WaterCascade {
     private int leastBestRelease(int filled) {
         int first = plants[0].leastRelease(filled);
         int best = first;
-        int bestEnergy = energyFrom(filled, first);
+        int greatest = energyFrom(filled, first);
         for (int release = first + RELEASE_STEP; release <= PLANT_FLOW && release <= filled; release += RELEASE_STEP) {
             int energy = energyFrom(filled, release);
-            if (energy > bestEnergy) {
+            if (energy > greatest) {
                 best = release;
-                bestEnergy = energy;
+                greatest = energy;
             }
         }
         return best;

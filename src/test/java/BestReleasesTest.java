@@ -7,6 +7,7 @@ final class BestReleasesTest {
         oneHour();
         waitsForAHigherHead();
         leastOfSeveral();
+        fullAndEmptyPondsGoOn();
         minimumBinds();
         minimumThatTheLevelDoesNotAllow();
         spillsAboveTheCapacity();
@@ -18,9 +19,12 @@ final class BestReleasesTest {
     }
 
     private static void dueBest(WaterCascade x, int hours, int energy, int release) {
+        // questions for other hours come between, as no answer may lean on what was asked before
+        x.bestEnergy(hours % 6 + 1);
+        Checks.due("bestRelease(" + hours + ")", x.bestRelease(hours), release);
+        x.bestRelease((hours + 1) % 6 + 1);
         Checks.due("bestEnergy(" + hours + ")", x.bestEnergy(hours), energy);
         Checks.due("bestEnergyByAll(" + hours + ")", x.bestEnergyByAll(hours), energy);
-        Checks.due("bestRelease(" + hours + ")", x.bestRelease(hours), release);
     }
 
     private static WaterCascade withLevel(int level) {
@@ -75,6 +79,18 @@ final class BestReleasesTest {
         dueBest(x, 6, 0, 0);
     }
 
+    private static void fullAndEmptyPondsGoOn() {
+        WaterCascade full = withLevel(200);
+        full.setInflow(0, 50, 50);
+        dueBest(full, 2, 2 * (160 * 60 / 10), 16);
+        dueBest(full, 6, 6 * (160 * 60 / 10), 16);
+        WaterCascade empty = new WaterCascade();
+        empty.setInflow(0, 4, 50);
+        empty.setMinimum(0, 4);
+        dueBest(empty, 2, 2 * (40 * 10 / 10), 4);
+        dueBest(empty, 6, 6 * (40 * 10 / 10), 4);
+    }
+
     private static void minimumBinds() {
         WaterCascade x = withLevel(20);
         for (int flow = 1; flow <= 8; flow++) {
@@ -86,6 +102,10 @@ final class BestReleasesTest {
             x.setMinimum(0, pair[0]);
             dueBest(x, 1, 0, pair[1]);
         }
+        WaterCascade z = withLevel(8);
+        z.setPond(0, 200, 0, 1);
+        z.setMinimum(0, 8);
+        dueBest(z, 2, 80 / 10, 8);
         WaterCascade y = withLevel(16);
         y.setPond(0, 200, 0, 1);
         y.setInflow(0, 4, 50);

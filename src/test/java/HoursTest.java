@@ -120,6 +120,13 @@ final class HoursTest {
         Checks.due("the account falls", x.account(1, 0), 0);
         Checks.due("the other one has all", x.account(1, 1), 40);
         Checks.due("the level stays", x.level(1), 40);
+        x.setPond(1, 200, 10, 1);
+        x.setInflow(1, 50, 0);
+        x.run(2);
+        Checks.due("lend 1", x.lend(1, 1, 1), 139);
+        Checks.due("lend 100", x.lend(1, 1, 100), 39);
+        Checks.due("all that was lent counts", x.balance(1), 30 - 10 + 20 + 100 - 1 - 100);
+        Checks.due("for the other one too", x.balance(0), 10 + 10 - 20 + 1 + 100);
     }
 
     private static void promise9Refuses() {

@@ -95,9 +95,11 @@ final class ModelTest {
                 }
                 case 10: {
                     int c = near(1, pick(0, 9) == 0 ? 6 : 4);
+                    int d = near(1, 4);
+                    int e = near(1, 4);
                     compare(name + "bestEnergy", () -> x.bestEnergy(c), () -> m.best(c)[0]);
-                    compare(name + "bestEnergyByAll", () -> x.bestEnergyByAll(c), () -> m.best(c)[0]);
-                    compare(name + "bestRelease", () -> x.bestRelease(c), () -> m.best(c)[1]);
+                    compare(name + "bestRelease", () -> x.bestRelease(d), () -> m.best(d)[1]);
+                    compare(name + "bestEnergyByAll", () -> x.bestEnergyByAll(e), () -> m.best(e)[0]);
                     break;
                 }
                 default: {

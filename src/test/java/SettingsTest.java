@@ -135,6 +135,13 @@ final class SettingsTest {
         Checks.due("setInflow", x.setInflow(2, 0, 50), 3);
         x.run(1);
         Checks.due("no inflow", x.level(2), 60);
+        WaterCascade y = new WaterCascade();
+        y.setInflow(0, 50, 99);
+        y.setInflow(1, 50, 1);
+        y.run(1);
+        Checks.due("99 of 100 of 50, rounded down", y.account(0, 0), 49);
+        Checks.due("1 of 100 of 50, rounded down", y.account(1, 0), 0);
+        Checks.due("the rest of it", y.account(1, 1), 50);
     }
 
     private static void promise3Refuses() {
@@ -173,6 +180,10 @@ final class SettingsTest {
         y.run(1);
         Checks.due("with equal accounts owner 0 does", y.account(1, 0), 2);
         Checks.due("and owner 1 does not", y.account(1, 1), 5);
+        y.order(1, 1, 2);
+        y.run(1);
+        Checks.due("1 alone is missing: owner 1 has more by then", y.account(1, 1), 5 + 5 - 2 - 1);
+        Checks.due("and owner 0 lets nothing go", y.account(1, 0), 2 + 5);
     }
 
     private static void promise4Refuses() {
