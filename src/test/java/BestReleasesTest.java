@@ -18,40 +18,16 @@ final class BestReleasesTest {
         Checks.end();
     }
 
-    private static void dueBest(WaterCascade x, int hours, int energy, int release) {
-        // questions for other hours come between, as no answer may lean on what was asked before
-        x.bestEnergy(hours % 6 + 1);
-        Checks.due("bestRelease(" + hours + ")", x.bestRelease(hours), release);
-        x.bestRelease((hours + 1) % 6 + 1);
-        Checks.due("bestEnergy(" + hours + ")", x.bestEnergy(hours), energy);
-        Checks.due("bestEnergyByAll(" + hours + ")", x.bestEnergyByAll(hours), energy);
-    }
-
-    private static WaterCascade withLevel(int level) {
-        WaterCascade x = new WaterCascade();
-        x.setPond(0, 200, 10, 1);
-        int rest = level;
-        while (rest > 0) {
-            int inflow = Math.min(rest, 50);
-            x.setInflow(0, inflow, 50);
-            x.run(1);
-            rest -= inflow;
-        }
-        x.setInflow(0, 0, 50);
-        Checks.due("level made", x.level(0), level);
-        return x;
-    }
-
     private static void oneHour() {
-        dueBest(new WaterCascade(), 1, 0, 0);
-        dueBest(withLevel(3), 1, 0, 0);
-        dueBest(withLevel(4), 1, 40, 4);
-        dueBest(withLevel(15), 1, 120 * 13 / 10, 12);
-        dueBest(withLevel(16), 1, 160 * 13 / 10, 16);
-        dueBest(withLevel(200), 1, 160 * 50 / 10, 16);
-        WaterCascade x = withLevel(3);
+        Checks.dueBest(new WaterCascade(), 1, 0, 0);
+        Checks.dueBest(Rivers.withLevel(3), 1, 0, 0);
+        Checks.dueBest(Rivers.withLevel(4), 1, 40, 4);
+        Checks.dueBest(Rivers.withLevel(15), 1, 120 * 13 / 10, 12);
+        Checks.dueBest(Rivers.withLevel(16), 1, 160 * 13 / 10, 16);
+        Checks.dueBest(Rivers.withLevel(200), 1, 160 * 50 / 10, 16);
+        WaterCascade x = Rivers.withLevel(3);
         x.setInflow(0, 9, 0);
-        dueBest(x, 1, 120 * 12 / 10, 12);
+        Checks.dueBest(x, 1, 120 * 12 / 10, 12);
     }
 
     private static void waitsForAHigherHead() {
@@ -59,40 +35,40 @@ final class BestReleasesTest {
         x.setPond(0, 100, 0, 1);
         x.setInflow(0, 4, 50);
         x.run(1);
-        dueBest(x, 1, 80 / 10, 8);
-        dueBest(x, 2, 120 * 2 / 10, 0);
+        Checks.dueBest(x, 1, 80 / 10, 8);
+        Checks.dueBest(x, 2, 120 * 2 / 10, 0);
     }
 
     private static void leastOfSeveral() {
-        WaterCascade x = withLevel(40);
+        WaterCascade x = Rivers.withLevel(40);
         for (int flow = 1; flow <= 8; flow++) {
             x.setYield(0, 0, flow, 0);
             x.setYield(0, 1, flow, flow < 4 ? 0 : 50);
         }
-        dueBest(x, 1, 50 * 18 / 10, 4);
+        Checks.dueBest(x, 1, 50 * 18 / 10, 4);
         x.setPond(0, 200, 0, 1);
         x.setYield(0, 1, 4, 0);
-        dueBest(x, 1, 50 * 8 / 10, 8);
+        Checks.dueBest(x, 1, 50 * 8 / 10, 8);
         for (int flow = 4; flow <= 8; flow++) {
             x.setYield(0, 1, flow, 0);
         }
-        dueBest(x, 6, 0, 0);
+        Checks.dueBest(x, 6, 0, 0);
     }
 
     private static void fullAndEmptyPondsGoOn() {
-        WaterCascade full = withLevel(200);
+        WaterCascade full = Rivers.withLevel(200);
         full.setInflow(0, 50, 50);
-        dueBest(full, 2, 2 * (160 * 60 / 10), 16);
-        dueBest(full, 6, 6 * (160 * 60 / 10), 16);
+        Checks.dueBest(full, 2, 2 * (160 * 60 / 10), 16);
+        Checks.dueBest(full, 6, 6 * (160 * 60 / 10), 16);
         WaterCascade empty = new WaterCascade();
         empty.setInflow(0, 4, 50);
         empty.setMinimum(0, 4);
-        dueBest(empty, 2, 2 * (40 * 10 / 10), 4);
-        dueBest(empty, 6, 6 * (40 * 10 / 10), 4);
+        Checks.dueBest(empty, 2, 2 * (40 * 10 / 10), 4);
+        Checks.dueBest(empty, 6, 6 * (40 * 10 / 10), 4);
     }
 
     private static void minimumBinds() {
-        WaterCascade x = withLevel(20);
+        WaterCascade x = Rivers.withLevel(20);
         for (int flow = 1; flow <= 8; flow++) {
             x.setYield(0, 0, flow, 0);
             x.setYield(0, 1, flow, 0);
@@ -100,52 +76,52 @@ final class BestReleasesTest {
         int[][] minimumAndRelease = {{0, 0}, {1, 4}, {4, 4}, {5, 8}, {8, 8}, {9, 12}, {12, 12}, {13, 16}, {16, 16}};
         for (int[] pair : minimumAndRelease) {
             x.setMinimum(0, pair[0]);
-            dueBest(x, 1, 0, pair[1]);
+            Checks.dueBest(x, 1, 0, pair[1]);
         }
-        WaterCascade z = withLevel(8);
+        WaterCascade z = Rivers.withLevel(8);
         z.setPond(0, 200, 0, 1);
         z.setMinimum(0, 8);
-        dueBest(z, 2, 80 / 10, 8);
-        WaterCascade y = withLevel(16);
+        Checks.dueBest(z, 2, 80 / 10, 8);
+        WaterCascade y = Rivers.withLevel(16);
         y.setPond(0, 200, 0, 1);
         y.setInflow(0, 4, 50);
         y.setMinimum(0, 5);
-        dueBest(y, 2, 80 * 4 / 10 + 160 * 3 / 10, 8);
+        Checks.dueBest(y, 2, 80 * 4 / 10 + 160 * 3 / 10, 8);
     }
 
     private static void minimumThatTheLevelDoesNotAllow() {
-        WaterCascade x = withLevel(11);
+        WaterCascade x = Rivers.withLevel(11);
         x.setMinimum(0, 9);
-        dueBest(x, 1, 80 * 12 / 10, 8);
+        Checks.dueBest(x, 1, 80 * 12 / 10, 8);
         for (int flow = 1; flow <= 8; flow++) {
             x.setYield(0, 0, flow, 0);
             x.setYield(0, 1, flow, 0);
         }
-        dueBest(x, 1, 0, 0);
-        WaterCascade y = withLevel(100);
+        Checks.dueBest(x, 1, 0, 0);
+        WaterCascade y = Rivers.withLevel(100);
         y.setMinimum(0, 17);
-        dueBest(y, 1, 160 * 30 / 10, 16);
+        Checks.dueBest(y, 1, 160 * 30 / 10, 16);
         y.setYield(0, 0, 8, 0);
         y.setYield(0, 1, 8, 0);
-        dueBest(y, 1, 140 * 30 / 10, 16);
+        Checks.dueBest(y, 1, 140 * 30 / 10, 16);
     }
 
     private static void spillsAboveTheCapacity() {
         WaterCascade x = new WaterCascade();
         x.setPond(0, 10, 0, 1);
         x.setInflow(0, 50, 50);
-        dueBest(x, 1, 160 * 10 / 10, 16);
-        dueBest(x, 2, 160 * 10 / 10 + 160 * 12 / 10, 16);
-        dueBest(x, 3, 160 * 10 / 10 + 2 * (160 * 12 / 10), 16);
+        Checks.dueBest(x, 1, 160 * 10 / 10, 16);
+        Checks.dueBest(x, 2, 160 * 10 / 10 + 160 * 12 / 10, 16);
+        Checks.dueBest(x, 3, 160 * 10 / 10 + 2 * (160 * 12 / 10), 16);
     }
 
     private static void levelAboveTheCapacity() {
-        WaterCascade x = withLevel(200);
+        WaterCascade x = Rivers.withLevel(200);
         x.setPond(0, 1, 0, 0);
-        dueBest(x, 1, 160 * 40 / 10, 16);
-        dueBest(x, 6, 160 * 40 / 10, 16);
+        Checks.dueBest(x, 1, 160 * 40 / 10, 16);
+        Checks.dueBest(x, 6, 160 * 40 / 10, 16);
         x.setInflow(0, 50, 0);
-        dueBest(x, 2, 160 * 50 / 10 + 160 * 10 / 10, 16);
+        Checks.dueBest(x, 2, 160 * 50 / 10 + 160 * 10 / 10, 16);
     }
 
     private static void asksOnlyForPlant0() {
@@ -154,11 +130,11 @@ final class BestReleasesTest {
         x.setInflow(2, 50, 50);
         x.run(2);
         x.order(0, 0, 30);
-        dueBest(x, 6, 0, 0);
+        Checks.dueBest(x, 6, 0, 0);
     }
 
     private static void changesNothing() {
-        WaterCascade x = withLevel(100);
+        WaterCascade x = Rivers.withLevel(100);
         x.setInflow(0, 10, 50);
         int energy = x.bestEnergy(6);
         int fewer = x.bestEnergy(2);

@@ -13,6 +13,15 @@ final class Checks {
         }
     }
 
+    static void dueBest(WaterCascade x, int hours, int energy, int release) {
+        // questions for other hours come between, as no answer may lean on what was asked before
+        x.bestEnergy(hours % 6 + 1);
+        due("bestRelease(" + hours + ")", x.bestRelease(hours), release);
+        x.bestRelease((hours + 1) % 6 + 1);
+        due("bestEnergy(" + hours + ")", x.bestEnergy(hours), energy);
+        due("bestEnergyByAll(" + hours + ")", x.bestEnergyByAll(hours), energy);
+    }
+
     static void isTrue(String what, boolean holds) {
         if (!holds) {
             complain(what + " does not hold");

@@ -8,16 +8,21 @@ import java.util.function.IntSupplier;
  * written anew from the document, with water moved unit by unit and parcels that travel.
  */
 final class ModelTest {
-    private static final int RUNS = 300;
-    private static final int CALLS = 500;
+    private static final int RUNS = 4000;
+    /** What later calls answer is free. */
+    private static final int MOST_CALLS = 512;
+    private static final int CALLS_OF_ONE_STEP = 5;
+    private static final int CALLS_OF_ALL = 64;
     private static long seed = 20261119;
+    /** The calls of the object of this run. */
+    private static int asked;
 
     private ModelTest() {
     }
 
     public static void main(String[] args) {
         for (int run = 0; run < RUNS; run++) {
-            oneRun(run);
+            oneRun("run " + run + " call ");
         }
         Checks.end();
     }
@@ -39,80 +44,104 @@ final class ModelTest {
         }
     }
 
-    private static void oneRun(int run) {
+    private static void oneRun(String name) {
         WaterCascade x = new WaterCascade();
         Model m = new Model();
         int longest = pick(0, 2) == 0 ? 24 : 2;
-        for (int call = 0; call < CALLS; call++) {
-            int a = near(0, 2);
-            int b = near(0, 1);
-            String name = "run " + run + " call " + call + " ";
-            switch (pick(0, 11)) {
-                case 0: {
-                    int c = near(1, 200);
-                    int d = near(0, 100);
-                    int e = near(0, 5);
-                    compare(name + "setPond", () -> nothing(() -> x.setPond(a, c, d, e)),
-                        () -> nothing(() -> m.setPond(a, c, d, e)));
-                    break;
-                }
-                case 1: {
-                    int c = near(0, 50);
-                    int d = near(0, 100);
-                    compare(name + "setInflow", () -> x.setInflow(a, c, d), () -> m.setInflow(a, c, d));
-                    break;
-                }
-                case 2: {
-                    int c = near(0, 20);
-                    compare(name + "setMinimum", () -> x.setMinimum(a, c), () -> m.setMinimum(a, c));
-                    break;
-                }
-                case 3: {
-                    int c = near(0, 30);
-                    compare(name + "order", () -> x.order(a, b, c), () -> m.order(a, b, c));
-                    break;
-                }
-                case 4: {
-                    int c = near(1, 8);
-                    int d = near(0, 200);
-                    compare(name + "setYield", () -> x.setYield(a, b, c, d), () -> m.setYield(a, b, c, d));
-                    break;
-                }
-                case 5: case 6: case 7: {
-                    int c = near(1, longest);
-                    compare(name + "run", () -> x.run(c), () -> m.run(c));
-                    break;
-                }
-                case 8: {
-                    int c = near(1, 100);
-                    compare(name + "lend", () -> x.lend(a, b, c), () -> m.lend(a, b, c));
-                    break;
-                }
-                case 9: {
-                    int c = near(0, 16);
-                    compare(name + "mix", () -> x.mix(a, c), () -> m.mix(a, c));
-                    break;
-                }
-                case 10: {
-                    int c = near(1, pick(0, 9) == 0 ? 6 : 4);
-                    int d = near(1, 4);
-                    int e = near(1, 4);
-                    compare(name + "bestEnergy", () -> x.bestEnergy(c), () -> m.best(c)[0]);
-                    compare(name + "bestRelease", () -> x.bestRelease(d), () -> m.best(d)[1]);
-                    compare(name + "bestEnergyByAll", () -> x.bestEnergyByAll(e), () -> m.best(e)[0]);
-                    break;
-                }
-                default: {
-                    int c = near(0, 300);
-                    compare(name + "arriving", () -> x.arriving(a, b, c), () -> m.arriving(a, b, c));
-                    compare(name + "account", () -> x.account(a, b), () -> m.account(a, b));
-                    compare(name + "travelling", () -> x.travelling(a, b), () -> m.travelling(a, b));
-                    compare(name + "balance", () -> x.balance(b), () -> m.balance(b));
-                    compare(name + "level", () -> x.level(a), () -> m.level(a));
-                }
+        asked = 0;
+        while (asked + CALLS_OF_ONE_STEP + CALLS_OF_ALL <= MOST_CALLS) {
+            oneStep(name + asked + " ", x, m, longest);
+            if (pick(0, 24) == 0 && asked + CALLS_OF_ALL <= MOST_CALLS) {
+                compareAll(name + asked + " ", x, m);
             }
-            compareAll(name, x, m);
         }
+        if (asked + CALLS_OF_ALL <= MOST_CALLS) {
+            compareAll(name + asked + " ", x, m);
+        }
+        Checks.isTrue(name + asked + " is one of " + MOST_CALLS, asked <= MOST_CALLS);
+    }
+
+    private static void oneStep(String name, WaterCascade x, Model m, int longest) {
+        switch (pick(0, 11)) {
+            case 0: case 1: case 2: case 3: case 4:
+                oneSetting(name, x, m);
+                break;
+            case 5: case 6: case 7: {
+                int hours = near(1, longest);
+                compare(name + "run", () -> x.run(hours), () -> m.run(hours));
+                break;
+            }
+            case 8: {
+                int plant = near(0, 2);
+                int owner = near(0, 1);
+                int amount = near(1, 100);
+                compare(name + "lend", () -> x.lend(plant, owner, amount), () -> m.lend(plant, owner, amount));
+                break;
+            }
+            case 9:
+                oneBest(name, x, m);
+                break;
+            default:
+                someQuestions(name, x, m);
+        }
+    }
+
+    private static void oneSetting(String name, WaterCascade x, Model m) {
+        int a = near(0, 2);
+        int b = near(0, 1);
+        switch (pick(0, 4)) {
+            case 0: {
+                int c = near(1, 200);
+                int d = near(0, 100);
+                int e = near(0, 5);
+                compare(name + "setPond", () -> nothing(() -> x.setPond(a, c, d, e)),
+                    () -> nothing(() -> m.setPond(a, c, d, e)));
+                break;
+            }
+            case 1: {
+                int c = near(0, 50);
+                int d = near(0, 100);
+                compare(name + "setInflow", () -> x.setInflow(a, c, d), () -> m.setInflow(a, c, d));
+                break;
+            }
+            case 2: {
+                int c = near(0, 20);
+                compare(name + "setMinimum", () -> x.setMinimum(a, c), () -> m.setMinimum(a, c));
+                break;
+            }
+            case 3: {
+                int c = near(0, 30);
+                compare(name + "order", () -> x.order(a, b, c), () -> m.order(a, b, c));
+                break;
+            }
+            default: {
+                int c = near(1, 8);
+                int d = near(0, 200);
+                compare(name + "setYield", () -> x.setYield(a, b, c, d), () -> m.setYield(a, b, c, d));
+            }
+        }
+    }
+
+    private static void oneBest(String name, WaterCascade x, Model m) {
+        // the model tries all, so that six hours are dear
+        int a = near(1, pick(0, 9) == 0 ? 6 : 4);
+        int b = near(1, 4);
+        int c = near(1, 4);
+        compare(name + "bestEnergy", () -> x.bestEnergy(a), () -> m.best(a)[0]);
+        compare(name + "bestRelease", () -> x.bestRelease(b), () -> m.best(b)[1]);
+        compare(name + "bestEnergyByAll", () -> x.bestEnergyByAll(c), () -> m.best(c)[0]);
+    }
+
+    private static void someQuestions(String name, WaterCascade x, Model m) {
+        int a = near(0, 2);
+        int b = near(0, 1);
+        int c = near(0, 300);
+        int d = near(0, 16);
+        compare(name + "arriving", () -> x.arriving(a, b, c), () -> m.arriving(a, b, c));
+        compare(name + "account", () -> x.account(a, b), () -> m.account(a, b));
+        compare(name + "travelling", () -> x.travelling(a, b), () -> m.travelling(a, b));
+        compare(name + "balance", () -> x.balance(b), () -> m.balance(b));
+        compare(name + "mix", () -> x.mix(a, d), () -> m.mix(a, d));
     }
 
     private static int nothing(Runnable call) {
@@ -121,6 +150,7 @@ final class ModelTest {
     }
 
     private static void compare(String call, IntSupplier got, IntSupplier want) {
+        asked++;
         Checks.Outcome answered = Checks.Outcome.of(got);
         Checks.Outcome due = Checks.Outcome.of(want);
         if (!answered.equals(due)) {
@@ -128,26 +158,32 @@ final class ModelTest {
         }
     }
 
+    private static void same(String call, int got, int want) {
+        asked++;
+        Checks.due(call, got, want);
+    }
+
     private static void compareAll(String name, WaterCascade x, Model m) {
-        Checks.due(name + "hour", x.hour(), m.hour);
+        same(name + "hour", x.hour(), m.hour);
         for (int plant = 0; plant < 3; plant++) {
-            Checks.due(name + "level " + plant, x.level(plant), m.level(plant));
-            Checks.due(name + "spilled " + plant, x.spilled(plant), m.spilled[plant]);
-            Checks.due(name + "missed " + plant, x.missed(plant), m.missed[plant]);
-            Checks.due(name + "flow " + plant, x.flow(plant), m.flow[plant]);
-            Checks.due(name + "energy " + plant, x.energy(plant), m.energy[plant]);
+            same(name + "level " + plant, x.level(plant), m.level(plant));
+            Checks.isTrue(name + "the level is not below 0", m.level(plant) >= 0);
+            same(name + "spilled " + plant, x.spilled(plant), m.spilled[plant]);
+            same(name + "missed " + plant, x.missed(plant), m.missed[plant]);
+            same(name + "flow " + plant, x.flow(plant), m.flow[plant]);
+            same(name + "energy " + plant, x.energy(plant), m.energy[plant]);
             for (int owner = 0; owner < 2; owner++) {
-                Checks.due(name + "account " + plant + owner, x.account(plant, owner), m.account(plant, owner));
+                same(name + "account " + plant + owner, x.account(plant, owner), m.account(plant, owner));
             }
         }
         for (int owner = 0; owner < 2; owner++) {
-            Checks.due(name + "cameIn " + owner, x.cameIn(owner), m.cameIn[owner]);
-            Checks.due(name + "gone " + owner, x.gone(owner), m.gone[owner]);
-            Checks.due(name + "balance " + owner, x.balance(owner), m.balance(owner));
+            same(name + "cameIn " + owner, x.cameIn(owner), m.cameIn[owner]);
+            same(name + "gone " + owner, x.gone(owner), m.gone[owner]);
+            same(name + "balance " + owner, x.balance(owner), m.balance(owner));
             for (int plant = 1; plant < 3; plant++) {
-                Checks.due(name + "travelling", x.travelling(plant, owner), m.travelling(plant, owner));
-                for (int hour = Math.max(0, m.hour - 7); hour < m.hour + 7; hour++) {
-                    Checks.due(name + "arriving", x.arriving(plant, owner, hour), m.arriving(plant, owner, hour));
+                same(name + "travelling", x.travelling(plant, owner), m.travelling(plant, owner));
+                for (int hour = Math.max(0, m.hour - 1); hour <= m.hour + 6; hour++) {
+                    same(name + "arriving", x.arriving(plant, owner, hour), m.arriving(plant, owner, hour));
                 }
             }
         }
@@ -357,7 +393,7 @@ final class ModelTest {
             return cameIn[owner] - gone[owner] - lent[owner] + lent[1 - owner];
         }
 
-        /** The greatest energy, and the least release of the next hour that leads to it: each row of releases is tried. */
+        /** The greatest energy, and the least release of the next hour that leads to it, by all rows of releases. */
         int[] best(int hours) {
             need(within(hours, 1, 6));
             int rows = (int) Math.pow(5, hours);

@@ -38,6 +38,9 @@ final class SettingsTest {
             Checks.due("cameIn", x.cameIn(owner), 0);
             Checks.due("gone", x.gone(owner), 0);
             Checks.due("balance", x.balance(owner), 0);
+            for (int hour = 0; hour <= 6; hour++) {
+                Checks.due("arriving", x.arriving(1, owner, hour) + x.arriving(2, owner, hour), 0);
+            }
         }
     }
 

@@ -57,6 +57,8 @@ final class StateTest {
         x.run(1);
         for (int hour = 0; hour <= 300; hour++) {
             Checks.due("arriving(2, 0, " + hour + ")", x.arriving(2, 0, hour), hour == 5 ? 3 : 0);
+        }
+        for (int hour = 0; hour <= 12; hour++) {
             Checks.due("arriving(2, 1, " + hour + ")", x.arriving(2, 1, hour), 0);
             Checks.due("arriving(1, 0, " + hour + ")", x.arriving(1, 0, hour), 0);
         }
