@@ -289,6 +289,9 @@ final class BestEdgesTest {
         Checks.dueBest(x, 1, 80 * 11 / 10, 8);
         x.lend(0, 1, 11);
         Checks.dueBest(x, 1, 80 * 11 / 10, 8);
+        // the owner with water could let 12 go alone
+        Checks.dueBest(Rivers.withAccounts(0, 12, -3), 1, 80 * 11 / 10, 8);
+        Checks.dueBest(Rivers.withAccounts(0, -3, 12), 1, 80 * 11 / 10, 8);
     }
 
     private static void ofPlant0Alone() {

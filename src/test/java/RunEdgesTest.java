@@ -20,6 +20,7 @@ final class RunEdgesTest {
         energyOfTheMostFlow();
         energyWithoutFlow();
         settingsOfTheHourCount();
+        settingsStandInAllHours();
         the512thCall();
         Checks.end();
     }
@@ -251,6 +252,33 @@ final class RunEdgesTest {
         x.setMinimum(0, 0);
         x.run(1);
         Checks.due("and no more", x.level(0), 87);
+    }
+
+    private static void settingsStandInAllHours() {
+        WaterCascade x = new WaterCascade();
+        for (int plant = 0; plant < 3; plant++) {
+            x.setPond(plant, 200, 90, 0);
+            x.setInflow(plant, 10, 50);
+            x.setMinimum(plant, 9);
+            // what comes in here and from above
+            x.order(plant, 0, 5 * plant + 5);
+            x.order(plant, 1, 5 * plant + 5);
+            x.setYield(plant, 1, 8, 33);
+        }
+        for (int hour = 1; hour <= 200; hour++) {
+            x.run(1);
+            Checks.due("gone in " + hour + " hours", x.gone(1), 15 * hour);
+        }
+        Checks.due("200 * (100 * (90 + 10 / 5) / 10)", x.energy(0), 200 * 920);
+        Checks.due("200 * (150 * (90 + 20 / 5) / 10)", x.energy(1), 200 * 1410);
+        Checks.due("200 * (150 * (90 + 30 / 5) / 10)", x.energy(2), 200 * 1440);
+        for (int plant = 0; plant < 3; plant++) {
+            Checks.due("the inflow still", x.setInflow(plant, 0, 0), 10);
+            Checks.due("the minimum still", x.setMinimum(plant, 0), 9);
+            Checks.due("owner 0's order still", x.order(plant, 0, 0), 5 * plant + 5);
+            Checks.due("owner 1's order still", x.order(plant, 1, 0), 5 * plant + 5);
+            Checks.due("the yield still", x.setYield(plant, 1, 8, 0), 33);
+        }
     }
 
     /** An object is used for at most 512 calls after it has been made; the last of them is as the first. */
